@@ -235,12 +235,12 @@ public final class EitherPocket {
         int best = 0;
         long most = reachesWith(now.left, now.right);
         for (int k = 1; k <= FULL_BOX; k++) {
-            long fromLeft = reachesPutOver(k);
+            long fromLeft = reachesWith(now.left - k, now.right + k);
             if (fromLeft > most) {
                 best = k;
                 most = fromLeft;
             }
-            long fromRight = reachesPutOver(-k);
+            long fromRight = reachesWith(now.left + k, now.right - k);
             if (fromRight > most) {
                 best = -k;
                 most = fromRight;
@@ -383,19 +383,13 @@ public final class EitherPocket {
         return walk.reachesTillEnd();
     }
 
+    /** -1, less than any mean, where the boxes can't hold so many. */
     private long reachesWith(int inLeft, int inRight) {
-        startFrom(inLeft, inRight, END_FOUND_EMPTY);
-        return walk.reachesTillEnd();
-    }
-
-    /** -1, less than any mean, where so many can't be put over. */
-    private long reachesPutOver(int fromLeft) {
-        int inLeft = now.left - fromLeft;
-        int inRight = now.right + fromLeft;
         if (!within(inLeft, 0, FULL_BOX) || !within(inRight, 0, FULL_BOX)) {
             return -1;
         }
-        return reachesWith(inLeft, inRight);
+        startFrom(inLeft, inRight, END_FOUND_EMPTY);
+        return walk.reachesTillEnd();
     }
 
     private void startByHand(int kind, int x) {
@@ -803,12 +797,13 @@ public final class EitherPocket {
         }
 
         long chanceOfLevel() {
+            int half = matches / 2;
+            if (half + half != matches || !within(half, 0, FULL_BOX)) {
+                return 0;
+            }
             long sum = 0;
             for (int last = 0; last < SIDES; last++) {
-                int half = matches / 2;
-                if (half + half == matches && within(half, 0, FULL_BOX)) {
-                    sum += row[half * SIDES + last];
-                }
+                sum += row[half * SIDES + last];
             }
             return sum;
         }
@@ -819,7 +814,11 @@ public final class EitherPocket {
                 for (int last = 0; last < SIDES; last++) {
                     long chance = row[left * SIDES + last];
                     if (chance > 0) {
-                        part(left, last, chance);
+                        int right = matches - left;
+                        int toLeft = handToLeft(kind, x, left, right, last);
+                        long quarter = chance / ALL_QUARTERS;
+                        follow(LEFT, left, right, quarter * toLeft);
+                        follow(RIGHT, right, left, quarter * (ALL_QUARTERS - toLeft));
                     }
                 }
             }
@@ -827,14 +826,6 @@ public final class EitherPocket {
             long[] used = row;
             row = nextRow;
             nextRow = used;
-        }
-
-        private void part(int left, int last, long chance) {
-            int right = matches - left;
-            int toLeft = handToLeft(kind, x, left, right, last);
-            long quarter = chance / ALL_QUARTERS;
-            follow(LEFT, left, right, quarter * toLeft);
-            follow(RIGHT, right, left, quarter * (ALL_QUARTERS - toLeft));
         }
 
         private void follow(int side, int own, int other, long chance) {
@@ -851,14 +842,14 @@ public final class EitherPocket {
             if (side == LEFT) {
                 endedLeft += chance;
             }
-            if (within(other, 0, FULL_BOX)) {
+            if (other >= 0 && other < others.length) {
                 others[other] += chance;
             }
         }
 
         private static void addTo(long[] cells, int left, int last, long chance) {
             int cell = left * SIDES + last;
-            if (within(cell, 0, cells.length - 1)) {
+            if (cell >= 0 && cell < cells.length) {
                 cells[cell] += chance;
             }
         }
