@@ -114,6 +114,14 @@ public final class PromiseTest {
         faultOf("e0;b99,99;", 0);
         faultOf("b1,1;b1,11;h9,9;", 5);
         faultOf("b1,1; ", 5);
+        faultOf("b1,1;".repeat(40), NONE);
+        faultOf("e1;".repeat(66) + "e1", 198);
+        faultOf("b1,1;".repeat(39) + "b1,11", 195);
+        EitherPocket p = new EitherPocket();
+        Check.type(p, "b1,10;");
+        p.wipe();
+        Check.type(p, "b1,1");
+        due(4, "fault() with letters wiped behind the last one", p.fault(), 0);
     }
 
     private static void lay() {
