@@ -9,7 +9,7 @@ public final class CallTest {
     private static final Check CHECK = new Check("CallTest");
     private static final int BAD = -1, NO = -2, FULL = -3, NONE = -4;
     private static final Pattern ITEM = Pattern.compile(
-        "b0?(\\d|10),0?(\\d|10);|h0?([0-3]),0?([0-4]);|l0?([01]);|e0?([1-9]);");
+        "b(0?\\d|10),(0?\\d|10);|h0?([0-3]),0?([0-4]);|l0?([01]);|e0?([1-9]);");
     private static final String LETTERS = "bhle0123456789,;;,10";
 
     private final Random random;
