@@ -3,7 +3,7 @@ import java.util.List;
 import java.util.regex.Matcher;
 import java.util.regex.Pattern;
 
-/** The whole document in its plainest form, by lists, patterns and exact fractions; it shares nothing with the class. */
+/** The whole document in its plainest form, by lists, a pattern and the oracle's fractions; it uses nothing of the class. */
 final class Model {
     static final int BAD = -1, NO = -2, FULL = -3, NONE = -4;
     private static final Pattern ITEM = Pattern.compile(
